@@ -10,7 +10,7 @@ public final class BoundDesk {
     // finite end is whole, and the largest products and quotients stay far below ENDLESS.
     private static final long ENDLESS = 1L << 60;
 
-    // Dividends and radicands stay below 2^40, so their roots have 20 bits.
+    // What a root is taken of, x in units times units, stays below 2^40: its root has 20 bits at most.
     private static final int ROOT_BITS = 20;
 
     private static final int PLUS = 0;
