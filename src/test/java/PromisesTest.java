@@ -122,6 +122,8 @@ public final class PromisesTest {
         }
         for (int e = 2; e <= 4; e++) {
             for (int m = 1; m <= 10; m++) {
+                // A new one, as nothing is promised after 512 calls.
+                desk = new BoundDesk();
                 for (int place = 0; place < 8; place++) {
                     put(desk, place, 0, 1);
                 }
