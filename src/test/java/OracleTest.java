@@ -1,14 +1,20 @@
 import java.math.BigInteger;
 import java.util.ArrayList;
+import java.util.Arrays;
 import java.util.List;
 import java.util.NoSuchElementException;
 import java.util.Random;
+import java.util.function.IntSupplier;
 
 /**
  * A second reckoning, slow and by other means: exact fractions, a table of all numbers of the
  * format, an end that is missing stood for by a huge number, and a divisor near 0 by a tiny one.
+ * Single calls on new objects first, then long runs in which each call meets what others left.
  */
 public final class OracleTest {
+    private static final int ILLEGAL = -101;
+    private static final int MISSING = -102;
+    private static final int OTHER = -103;
     private static int wrong = 0;
     private static long asked = 0;
 
@@ -137,6 +143,10 @@ public final class OracleTest {
                 return patterns.get(under) % 2 == 0 ? patterns.get(under) : patterns.get(over);
             }
             return order < 0 ? patterns.get(under) : patterns.get(over);
+        }
+
+        Fraction square(int at) {
+            return numbers.get(at).times(numbers.get(at));
         }
 
         Fraction end(int pattern) {
@@ -365,36 +375,53 @@ public final class OracleTest {
         } catch (NoSuchElementException e) {
             due("middle or width threw" + of, 1, a == null || a.kind(t) > 2 ? 1 : 0);
         }
-        Fraction half = Fraction.power(-1);
-        due("width" + of, width, a == null ? -1 : t.highPattern(t.end(a.high).minus(t.end(a.low))));
-        due("middle" + of, middle, a == null || a.kind(t) > 2 ? -1 : t.nearestPattern(t.end(a.low).plus(t.end(a.high)).times(half)));
+        due("width" + of, width, a == null ? -1 : widthOf(a, t));
+        due("middle" + of, middle, a == null || a.kind(t) > 2 ? -1 : middleOf(a, t));
+    }
+
+    private static int widthOf(Ends s, Table t) {
+        return t.highPattern(t.end(s.high).minus(t.end(s.low)));
+    }
+
+    private static int middleOf(Ends s, Table t) {
+        return t.nearestPattern(t.end(s.low).plus(t.end(s.high)).times(Fraction.power(-1)));
+    }
+
+    private static boolean isIn(Ends s, int pattern, Table t) {
+        boolean finite = pattern >= 0 && pattern < 2 * t.signBit && pattern % t.signBit < t.infinite;
+        return finite && s != null
+            && t.end(s.low).compareTo(t.end(pattern)) <= 0 && t.end(pattern).compareTo(t.end(s.high)) <= 0;
+    }
+
+    private static Ends total(Ends[] spans, int from, int many, Table t) {
+        Fraction low = Fraction.ZERO;
+        Fraction high = Fraction.ZERO;
+        for (int i = from; i < from + many; i++) {
+            if (spans[i] == null) {
+                return null;
+            }
+            low = low.plus(t.end(spans[i].low));
+            high = high.plus(t.end(spans[i].high));
+        }
+        return new Ends(t.lowPattern(low), t.highPattern(high));
     }
 
     private static void checkHas(Ends a, int pattern, Table t) {
         BoundDesk desk = desk(t);
         put(desk, 0, a);
-        boolean finite = pattern >= 0 && pattern < 2 * t.signBit && pattern % t.signBit < t.infinite;
-        boolean in = finite && a != null
-            && t.end(a.low).compareTo(t.end(pattern)) <= 0 && t.end(pattern).compareTo(t.end(a.high)) <= 0;
-        due("has " + pattern + " of " + told(a), desk.has(0, pattern) ? 1 : 0, in ? 1 : 0);
+        due("has " + pattern + " of " + told(a), desk.has(0, pattern) ? 1 : 0, isIn(a, pattern, t) ? 1 : 0);
     }
 
-    private static void checkSum(List<Ends> spans, int from, int many, int to, Table t) {
+    private static void checkSum(Ends[] spans, int from, int many, int to, Table t) {
         BoundDesk desk = desk(t);
         for (int i = 0; i < 8; i++) {
-            put(desk, i, spans.get(i));
+            put(desk, i, spans[i]);
         }
-        Fraction low = Fraction.ZERO;
-        Fraction high = Fraction.ZERO;
-        boolean empty = false;
         StringBuilder what = new StringBuilder("sum of");
         for (int i = from; i < from + many; i++) {
-            what.append(' ').append(told(spans.get(i)));
-            empty |= spans.get(i) == null;
-            low = empty ? low : low.plus(t.end(spans.get(i).low));
-            high = empty ? high : high.plus(t.end(spans.get(i).high));
+            what.append(' ').append(told(spans[i]));
         }
-        Ends s = empty ? null : new Ends(t.lowPattern(low), t.highPattern(high));
+        Ends s = total(spans, from, many, t);
         due(what.toString(), desk.sum(to, from, many), kindOf(s, t));
         holds(what.toString(), desk, to, s, t);
     }
@@ -464,9 +491,8 @@ public final class OracleTest {
         }
     }
 
-    private static void checkMany(int e, int m, int rounds) {
-        Table t = new Table(e, m);
-        Random random = new Random(100 * e + m);
+    private static void checkMany(Table t, int rounds) {
+        Random random = new Random(100 * t.e + t.m);
         for (int i = 0; i < rounds; i++) {
             Ends a = randomSpan(random, t);
             Ends b = randomSpan(random, t);
@@ -475,23 +501,231 @@ public final class OracleTest {
             if (i % 4 == 0) {
                 checkOne(a, t);
             }
-            List<Ends> eight = new ArrayList<>();
+            Ends[] eight = new Ends[8];
             for (int place = 0; place < 8; place++) {
-                eight.add(randomSpan(random, t));
+                eight[place] = randomSpan(random, t);
             }
             int from = random.nextInt(8);
             checkSum(eight, from, 1 + random.nextInt(8 - from), random.nextInt(8), t);
         }
     }
 
+    /** The one number next to a root or a square on each side, for every number of a format. */
+    private static void checkRootsAndSquares(Table t) {
+        int zero = t.count(Fraction.ZERO, false);
+        int under = zero;
+        for (int i = zero; i < t.numbers.size(); i++) {
+            Fraction x = t.numbers.get(i);
+            // Roots grow with their squares, so the search goes on where the last one ended.
+            while (under + 1 < t.numbers.size() && t.square(under + 1).compareTo(x) <= 0) {
+                under++;
+            }
+            int over = t.square(under).compareTo(x) == 0 ? under : under + 1;
+            Ends root = new Ends(t.patterns.get(under), over == t.numbers.size() ? t.infinite : t.patterns.get(over));
+            Ends square = new Ends(t.lowPattern(t.square(i)), t.highPattern(t.square(i)));
+            BoundDesk desk = desk(t);
+            put(desk, 0, new Ends(t.patterns.get(i), t.patterns.get(i)));
+            String of = " of " + t.patterns.get(i) + " in " + t.e + ", " + t.m;
+            due("root" + of, desk.does(10, 1, 0, 0), kindOf(root, t));
+            holds("root" + of, desk, 1, root, t);
+            due("square" + of, desk.does(9, 1, 0, 0), kindOf(square, t));
+            holds("square" + of, desk, 1, square, t);
+        }
+    }
+
+    /** One object through a run of calls, right ones and wrong ones, and beside it what is due. */
+    private static final class Run {
+        private static final int[] NO_PLACES = {-1, 8, 9, -8, 256, Integer.MAX_VALUE, Integer.MIN_VALUE};
+        private static final int[] NO_OPERATIONS = {-1, 12, Integer.MAX_VALUE, Integer.MIN_VALUE};
+        private static final int[] NO_COUNTS = {0, -1, 9, Integer.MAX_VALUE, Integer.MIN_VALUE};
+
+        private final Random random;
+        private final Table[][] tables;
+        private final String name;
+        private final BoundDesk desk = new BoundDesk();
+        private final Ends[] kept = new Ends[8];
+        private Table t;
+        private int calls = 0;
+
+        Run(int seed, Table[][] tables) {
+            random = new Random(seed);
+            this.tables = tables;
+            name = "run " + seed;
+            t = tables[4][10];
+        }
+
+        private void call(String what, IntSupplier call, int want) {
+            calls++;
+            int got;
+            try {
+                got = call.getAsInt();
+            } catch (RuntimeException e) {
+                got = e.getClass() == IllegalArgumentException.class ? ILLEGAL
+                    : e.getClass() == NoSuchElementException.class ? MISSING : OTHER;
+            }
+            due(name + ", call " + calls + ", format " + t.e + ", " + t.m + ": " + what, got, want);
+        }
+
+        private boolean seldom() {
+            return random.nextInt(30) == 0;
+        }
+
+        private int place() {
+            return seldom() ? NO_PLACES[random.nextInt(NO_PLACES.length)] : random.nextInt(8);
+        }
+
+        private static boolean is(int place) {
+            return place >= 0 && place < 8;
+        }
+
+        private void format(int e, int m) {
+            boolean right = e >= 2 && e <= 4 && m >= 1 && m <= 10;
+            call("format(" + e + ", " + m + ")", () -> desk.format(e, m) ? 1 : 0, right ? 1 : 0);
+            if (right) {
+                t = tables[e][m];
+                Arrays.fill(kept, null);
+            }
+        }
+
+        private void set() {
+            int place = place();
+            Ends s = randomSpan(random, t);
+            if (s == null) {
+                call("clear(" + place + ")", () -> desk.clear(place) ? 1 : 0, is(place) ? 1 : 0);
+            } else {
+                // The ends the wrong way round are a span only if they are one number.
+                boolean turned = seldom();
+                int low = turned ? s.high : s.low;
+                int high = turned ? s.low : s.high;
+                boolean right = is(place) && (!turned || low == high);
+                call("set(" + place + ", " + low + ", " + high + ")", () -> desk.set(place, low, high) ? 1 : 0, right ? 1 : 0);
+                if (!right) {
+                    return;
+                }
+            }
+            if (is(place)) {
+                kept[place] = s;
+            }
+        }
+
+        private void does() {
+            int operation = seldom() ? NO_OPERATIONS[random.nextInt(4)] : random.nextInt(12);
+            int to = place();
+            int a = place();
+            int b = place();
+            boolean right = operation >= 0 && operation < 12 && is(to) && is(a) && (operation > 7 || is(b));
+            Ends s = right ? result(operation, kept[a], is(b) ? kept[b] : null, t) : null;
+            call("does(" + operation + ", " + to + ", " + a + ", " + b + ")",
+                () -> desk.does(operation, to, a, b), right ? kindOf(s, t) : ILLEGAL);
+            if (right) {
+                kept[to] = s;
+            }
+        }
+
+        private void part() {
+            int to = place();
+            int a = place();
+            int b = place();
+            boolean right = is(to) && to < 7 && is(a) && is(b);
+            Ends above = right ? quotients(kept[a], kept[b], t, true, false) : null;
+            Ends below = right ? quotients(kept[a], kept[b], t, false, true) : null;
+            call("part(" + to + ", " + a + ", " + b + ")",
+                () -> desk.part(to, a, b), right ? kindOf(above, t) + 8 * kindOf(below, t) : ILLEGAL);
+            if (right) {
+                kept[to] = above;
+                kept[to + 1] = below;
+            }
+        }
+
+        private void sum() {
+            int to = place();
+            int from = place();
+            int many = seldom() ? NO_COUNTS[random.nextInt(NO_COUNTS.length)] : 1 + random.nextInt(4);
+            boolean right = is(to) && is(from) && many >= 1 && many <= 8 - from;
+            Ends s = right ? total(kept, from, many, t) : null;
+            call("sum(" + to + ", " + from + ", " + many + ")",
+                () -> desk.sum(to, from, many), right ? kindOf(s, t) : ILLEGAL);
+            if (right) {
+                kept[to] = s;
+            }
+        }
+
+        private void ask(int place) {
+            Ends s = is(place) ? kept[place] : null;
+            call("kind(" + place + ")", () -> desk.kind(place), is(place) ? kindOf(s, t) : -1);
+            call("low(" + place + ")", () -> desk.low(place), s == null ? MISSING : s.low);
+            call("high(" + place + ")", () -> desk.high(place), s == null ? MISSING : s.high);
+            call("width(" + place + ")", () -> desk.width(place), s == null ? MISSING : widthOf(s, t));
+            call("middle(" + place + ")", () -> desk.middle(place), s == null || s.kind(t) > 2 ? MISSING : middleOf(s, t));
+        }
+
+        private void compare() {
+            int a = place();
+            int b = place();
+            call("compare(" + a + ", " + b + ")",
+                () -> desk.compare(a, b), is(a) && is(b) ? comparison(kept[a], kept[b], t) : -1);
+        }
+
+        private void has() {
+            int place = place();
+            int pattern = random.nextInt(2 * t.signBit + 2) - 1;
+            call("has(" + place + ", " + pattern + ")",
+                () -> desk.has(place, pattern) ? 1 : 0, is(place) && isIn(kept[place], pattern, t) ? 1 : 0);
+        }
+
+        private void step() {
+            switch (random.nextInt(10)) {
+                case 0: case 1: set(); break;
+                case 2: case 3: case 4: does(); break;
+                case 5: part(); break;
+                case 6: sum(); break;
+                case 7: compare(); break;
+                case 8: has(); break;
+                default: ask(place()); break;
+            }
+            if (random.nextInt(150) == 0) {
+                format(1 + random.nextInt(5), random.nextInt(12));
+            }
+        }
+
+        void go() {
+            if (random.nextInt(10) != 0) {
+                format(2 + random.nextInt(3), 1 + random.nextInt(10));
+            }
+            // The last questions are 40 calls: all stay within the 512 that the document has.
+            while (calls < 460) {
+                step();
+            }
+            for (int place = 0; place < 8; place++) {
+                ask(place);
+            }
+            due(name + " has at most 512 calls", calls <= 512 ? 1 : 0, 1);
+        }
+    }
+
+    private static Table[][] allTables() {
+        Table[][] tables = new Table[5][11];
+        for (int e = 2; e <= 4; e++) {
+            for (int m = 1; m <= 10; m++) {
+                tables[e][m] = new Table(e, m);
+            }
+        }
+        return tables;
+    }
+
     public static void main(String[] args) {
         due("a huge number is beyond all", BEYOND.compareTo(HUGE.times(Fraction.power(-16))) < 0 ? 1 : 0, 1);
         checkAll(2, 1);
         checkAll(2, 2);
+        Table[][] tables = allTables();
         for (int e = 2; e <= 4; e++) {
             for (int m = 1; m <= 10; m++) {
-                checkMany(e, m, 1500);
+                checkMany(tables[e][m], 1500);
+                checkRootsAndSquares(tables[e][m]);
             }
+        }
+        for (int seed = 1; seed <= 300; seed++) {
+            new Run(seed, tables).go();
         }
         System.out.println(asked + " answers, " + wrong + " not as due");
         if (wrong != 0) {

@@ -502,7 +502,27 @@ public final class PromisesTest {
         due("14: no such PLACE", desk.has(Integer.MAX_VALUE, 0) || desk.has(Integer.MIN_VALUE, 0), false);
     }
 
+    /** README.md's example, line by line; what changes here changes there. */
+    private static void readme() {
+        BoundDesk desk = new BoundDesk();
+        due("README: set(0, 7168, 8192)", desk.set(0, 7168, 8192), true);
+        due("README: set(1, 8704, 8704)", desk.set(1, 8704, 8704), true);
+        due("README: does(3, 2, 0, 1)", does(desk, OVER, 2, 0, 1), 2);
+        holds("README: 1/3 to 2/3", desk, 2, 5461, 6486);
+        due("README: has(2, 6144)", desk.has(2, 6144), true);
+        due("README: set(3, 23552, 7168)", desk.set(3, 23552, 7168), true);
+        due("README: part(4, 1, 3)", part(desk, 4, 1, 3), 35);
+        holds("README: 3 and more", desk, 4, 8704, 15360);
+        holds("README: -3 and less", desk, 5, 31744, 25088);
+        due("README: sum(6, 0, 2)", sum(desk, 6, 0, 2), 2);
+        holds("README: 4 to 5", desk, 6, 9216, 9472);
+        due("README: middle(6)", middle(desk, 6), 9344);
+        due("README: width(6)", width(desk, 6), 7168);
+        due("README: compare(1, 6)", desk.compare(1, 6), 1);
+    }
+
     public static void main(String[] args) {
+        readme();
         newObject();
         format();
         set();
